@@ -116,7 +116,8 @@ public final class RosettaMill {
         Texts text = tapeAt(tape);
         checkPlace(document);
         checkDialect(dialect);
-        return readInto(text, dialect, document);
+        TextReader reader = ready(dialect, text, text.lengthOf(0));
+        return keepRead(reader, reader.readWhole(), document);
     }
 
     public boolean begin(char dialect) throws IllegalArgumentException {
@@ -151,7 +152,8 @@ public final class RosettaMill {
             throw new IllegalStateException("no text is under way");
         }
         underWay = false;
-        return readInto(pieces, pieceDialect, document);
+        TextReader reader = ready(pieceDialect, pieces, pieces.lengthOf(0));
+        return keepRead(reader, reader.readWhole(), document);
     }
 
     public int write(int document, char dialect, int tape)
@@ -380,9 +382,12 @@ public final class RosettaMill {
     public boolean isSound() {
         for (int i = 0; i < DOCUMENTS; i++) {
             Document document = documents[i];
-            if (document != null && document.count() > 0
-                    && !(comesBack(document, 'b') && comesBack(document, 'p') && comesBack(document, 'l'))) {
-                return false;
+            for (int j = 0; j < 3 && document != null && document.count() > 0; j++) {
+                char dialect = j == 0 ? 'b' : j == 1 ? 'p' : 'l';
+                Texts page = writer.written(document, dialect, settingOf(dialect, 's') == 1, false);
+                if (!comesBack(document, dialect, page)) {
+                    return false;
+                }
             }
         }
         return true;
@@ -461,13 +466,9 @@ public final class RosettaMill {
         return reader;
     }
 
-    private int readInto(Texts text, char dialect, int document) {
-        TextReader reader = ready(dialect, text, text.lengthOf(0));
-        if (!reader.readWhole()) {
+    private int keepRead(TextReader reader, boolean whole, int document) {
+        if (!whole || document < 0 || document >= documents.length || documents[document] == null) {
             return -1 - reader.place();
-        }
-        if (document < 0 || document >= documents.length || documents[document] == null) {
-            return -1;
         }
         reader.giveTo(documents[document]);
         return documents[document].count();
@@ -482,8 +483,7 @@ public final class RosettaMill {
         }
     }
 
-    private boolean comesBack(Document document, char dialect) {
-        Texts page = writer.written(document, dialect, settingOf(dialect, 's') == 1, false);
+    private boolean comesBack(Document document, char dialect, Texts page) {
         int length = page.lengthOf(0);
         TextReader reader = ready(dialect, page, length / 2);
         if (!reader.readWhole() && reader.place() < length / 2) {
@@ -572,10 +572,6 @@ public final class RosettaMill {
             this.bytes = new int[Math.max(Math.max(many, 1) * Math.max(limit, 1), 1)];
         }
 
-        boolean hasRow(int row) {
-            return row >= 0 && row < lengths.length;
-        }
-
         int lengthOf(int row) {
             return row >= 0 && row < lengths.length ? lengths[row] : 0;
         }
@@ -608,7 +604,7 @@ public final class RosettaMill {
         }
 
         void copy(int row, Texts from, int fromRow) {
-            if (!hasRow(row) || from == null || !from.hasRow(fromRow)) {
+            if (row < 0 || row >= lengths.length || fromRow < 0 || fromRow >= from.lengths.length) {
                 return;
             }
             int many = Math.min(from.lengths[fromRow], limit);
@@ -628,15 +624,21 @@ public final class RosettaMill {
 
         // By bytes, and a shorter one is ahead of those that it begins.
         int compare(int row, Texts other, int otherRow) {
-            int mine = lengthOf(row);
-            int its = other.lengthOf(otherRow);
-            for (int i = 0; i < mine && i < its; i++) {
-                int difference = at(row, i) - other.at(otherRow, i);
-                if (difference != 0) {
-                    return difference;
+            if (row < 0 || row >= lengths.length || otherRow < 0 || otherRow >= other.lengths.length) {
+                return -1;
+            }
+            int mine = row * limit;
+            int its = otherRow * other.limit;
+            int many = Math.min(lengths[row], other.lengths[otherRow]);
+            if (mine < 0 || its < 0 || mine + many > bytes.length || its + many > other.bytes.length) {
+                return -1;
+            }
+            for (int i = 0; i < many; i++) {
+                if (bytes[mine + i] != other.bytes[its + i]) {
+                    return bytes[mine + i] - other.bytes[its + i];
                 }
             }
-            return mine - its;
+            return lengths[row] - other.lengths[otherRow];
         }
     }
 
@@ -665,10 +667,6 @@ public final class RosettaMill {
             return texts;
         }
 
-        boolean has(int i) {
-            return i >= 0 && i < count && i < MOST_VALUES;
-        }
-
         boolean hasRoom(int level) {
             return count >= 0 && count < MOST_VALUES && level >= 1 && level <= DEEPEST;
         }
@@ -688,14 +686,13 @@ public final class RosettaMill {
             numbers[place] = 0;
             behinds[place] = 0;
             minuses[place] = false;
-            texts.empty(place);
             count = place + 1;
             return place;
         }
 
         /** Adds a value like one of a document, without what is in it and without its key. */
         boolean addLike(Document from, int i, int level) {
-            if (!from.has(i)) {
+            if (i < 0 || i >= from.count || i >= MOST_VALUES) {
                 return false;
             }
             int place = add(from.kinds[i], level);
@@ -728,13 +725,13 @@ public final class RosettaMill {
         }
 
         void become(int i, char kind) {
-            if (has(i)) {
+            if (i >= 0 && i < count && i < MOST_VALUES) {
                 kinds[i] = kind;
             }
         }
 
         void giveNumber(int i, int number, int behind, boolean minus) {
-            if (has(i)) {
+            if (i >= 0 && i < count && i < MOST_VALUES) {
                 numbers[i] = number;
                 behinds[i] = behind;
                 minuses[i] = minus;
@@ -742,7 +739,7 @@ public final class RosettaMill {
         }
 
         char kindAt(int i) {
-            return has(i) ? kinds[i] : ' ';
+            return i >= 0 && i < count && i < MOST_VALUES ? kinds[i] : ' ';
         }
 
         int levelAt(int i) {
@@ -750,19 +747,19 @@ public final class RosettaMill {
         }
 
         int numberAt(int i) {
-            return has(i) ? numbers[i] : 0;
+            return i >= 0 && i < count && i < MOST_VALUES ? numbers[i] : 0;
         }
 
         int behindAt(int i) {
-            return has(i) ? behinds[i] : 0;
+            return i >= 0 && i < count && i < MOST_VALUES ? behinds[i] : 0;
         }
 
         boolean isMinus(int i) {
-            return has(i) && minuses[i];
+            return i >= 0 && i < count && i < MOST_VALUES && minuses[i];
         }
 
         boolean isHolder(int i) {
-            return has(i) && (kinds[i] == 'r' || kinds[i] == 'm');
+            return i >= 0 && i < count && i < MOST_VALUES && (kinds[i] == 'r' || kinds[i] == 'm');
         }
 
         /** The place behind the last value in this one. */
@@ -994,14 +991,13 @@ public final class RosettaMill {
 
         final void skipBlanks() {
             boolean comment = false;
-            for (int i = 0; i < LONGEST_PAGE && !isAtEnd() && (comment || isBlank()); i++) {
-                comment = now() != NEW_LINE && (comment || now() == '#');
+            for (int i = 0; i < LONGEST_PAGE && !isAtEnd(); i++) {
+                comment = now() != NEW_LINE && (comment || comments && now() == '#');
+                if (!comment && now() != ' ' && now() != NEW_LINE) {
+                    return;
+                }
                 step();
             }
-        }
-
-        private boolean isBlank() {
-            return now() == ' ' || now() == NEW_LINE || comments && now() == '#';
         }
 
         /** Reads nothing, a truth, a number or a text as in braces; there is room for it. */
@@ -1147,78 +1143,49 @@ public final class RosettaMill {
             if (!made.hasRoom(level)) {
                 return false;
             }
-            if (now() == '[') {
-                return readRow(level);
-            }
-            return now() == '{' ? readMap(level) : readPlain(level);
+            return now() == '[' || now() == '{' ? readHolder(level) : readPlain(level);
         }
 
-        private boolean readRow(int level) {
-            made.add('r', level);
+        private boolean readHolder(int level) {
+            boolean map = now() == '{';
+            int close = map ? '}' : ']';
+            int holder = made.add(map ? 'm' : 'r', level);
             step();
             skipBlanks();
             boolean canEnd = true;
             for (int i = 0; i <= MOST_VALUES; i++) {
-                if (canEnd && now() == ']') {
+                if (canEnd && now() == close) {
                     step();
                     return true;
                 }
+                int earlier = map ? readKey(holder) : -1;
+                if (earlier == FAULT || map && !readColon()) {
+                    return false;
+                }
+                int value = made.count();
                 if (!readValue(level + 1)) {
                     return false;
                 }
+                settle(earlier, value);
                 skipBlanks();
-                canEnd = now() != ',' || canEndWithComma();
+                canEnd = now() == close || canEndWithComma();
                 if (now() == ',') {
                     step();
                     skipBlanks();
-                } else if (now() != ']') {
+                } else if (now() != close) {
                     return false;
                 }
             }
             return false;
         }
 
-        private boolean readMap(int level) {
-            int map = made.add('m', level);
-            step();
-            skipBlanks();
-            boolean canEnd = true;
-            for (int i = 0; i <= MOST_VALUES; i++) {
-                if (canEnd && now() == '}') {
-                    step();
-                    return true;
-                }
-                if (!readPair(map, level)) {
-                    return false;
-                }
-                skipBlanks();
-                canEnd = now() != ',' || canEndWithComma();
-                if (now() == ',') {
-                    step();
-                    skipBlanks();
-                } else if (now() != '}') {
-                    return false;
-                }
-            }
-            return false;
-        }
-
-        private boolean readPair(int map, int level) {
-            int earlier = readKey(map);
-            if (earlier == FAULT) {
-                return false;
-            }
+        private boolean readColon() {
             skipBlanks();
             if (now() != ':') {
                 return false;
             }
             step();
             skipBlanks();
-            int value = made.count();
-            if (!readValue(level + 1)) {
-                return false;
-            }
-            settle(earlier, value);
             return true;
         }
     }
@@ -1258,7 +1225,13 @@ public final class RosettaMill {
                 skipBlanks();
             }
             int value = made.count();
-            if (!(now() == '*' ? readAgain(level) : readNew(level))) {
+            if (now() == '*') {
+                step();
+                if (!copyTo(made, valueNamed(now() - '0'), level)) {
+                    return false;
+                }
+                step();
+            } else if (!made.hasRoom(level) || !(now() == '(' ? readHolder(level) : readPiece(level))) {
                 return false;
             }
             for (int i = 0; i < named.length; i++) {
@@ -1269,23 +1242,12 @@ public final class RosettaMill {
             return true;
         }
 
-        private boolean readAgain(int level) {
-            step();
-            int name = now() - '0';
-            if (name < 0 || name >= named.length || named[name] < 0 || !copyTo(made, named[name], level)) {
-                return false;
-            }
-            step();
-            return true;
+        private int valueNamed(int name) {
+            return name >= 0 && name < named.length ? named[name] : -1;
         }
 
-        private boolean readNew(int level) {
-            if (!made.hasRoom(level)) {
-                return false;
-            }
-            if (now() == '(') {
-                return readHolder(level);
-            }
+        /** Reads any value but a row or map. */
+        private boolean readPiece(int level) {
             if (now() == '"') {
                 return readPlain(level);
             }
