@@ -217,12 +217,12 @@ public final class RosettaMill {
             throws IndexOutOfBoundsException, NoSuchElementException, UnsupportedOperationException {
         Texts path = tapeAt(tape);
         Document changed = documentAt(document);
-        Document put = documentAt(by);
+        Document with = documentAt(by);
         int many = finder.find(changed, path);
         if (many < 0) {
             return many;
         }
-        many = weaver.replaced(changed, finder, put);
+        many = weaver.replaced(changed, finder, with);
         keepWoven(document);
         return many;
     }
@@ -245,7 +245,7 @@ public final class RosettaMill {
         Texts path = tapeAt(tape);
         Texts name = tapeAt(key);
         Document changed = documentAt(document);
-        Document put = documentAt(by);
+        Document with = documentAt(by);
         if (!isKey(name)) {
             throw new IllegalArgumentException("the tape is no key");
         }
@@ -253,7 +253,7 @@ public final class RosettaMill {
         if (many < 0) {
             return many;
         }
-        many = weaver.filled(changed, finder, name, put);
+        many = weaver.filled(changed, finder, name, with);
         keepWoven(document);
         return many;
     }
@@ -898,10 +898,6 @@ public final class RosettaMill {
 
         final int place() {
             return at;
-        }
-
-        final int end() {
-            return end;
         }
 
         final boolean isAtEnd() {

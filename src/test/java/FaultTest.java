@@ -16,8 +16,9 @@ public final class FaultTest {
         "[0][0][0][0][0]", "[3]"};
 
     public static void main(String[] args) {
+        int runs = args.length > 0 ? Integer.parseInt(args[0]) : 700;
         Chance chance = new Chance(11);
-        for (int i = 0; i < 700; i++) {
+        for (int i = 0; i < runs && Bench.wrong < 20; i++) {
             oneText(chance, 'b', BRACE_PARTS, settings(chance, "ce"));
             oneText(chance, 'p', PAREN_PARTS, settings(chance, "c"));
             oneText(chance, 'l', LINE_PARTS, "");

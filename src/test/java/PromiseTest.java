@@ -180,6 +180,11 @@ public final class PromiseTest {
         faultAt(bench, 'b', "[1}", 2);
         faultAt(bench, 'b', "{\"a\",", 4);
         faultAt(bench, 'b', "{1:2}", 1);
+        faultAt(bench, 'b', "{\"a\"1}", 4);
+        faultAt(bench, 'b', "{\"a\" {}}", 5);
+        faultAt(bench, 'b', "{,}", 1);
+        faultAt(bench, 'b', "[", 1);
+        faultAt(bench, 'b', "{\"a\":", 5);
         faultAt(bench, 'b', "{\"a\":1,}", 7);
         faultAt(bench, 'b', "[1] 2", 4);
         faultAt(bench, 'b', "[1] #", 4);
@@ -334,6 +339,9 @@ public final class PromiseTest {
         faultAt(bench, 'l', "[0]=1\n[0]=2", 7);
         faultAt(bench, 'l', "[0]=1\n.\"a\"=2", 6);
         faultAt(bench, 'l', "[0]=[]\n[0][0]=2", 8);
+        faultAt(bench, 'l', "=[]\n[0]=2", 4);
+        faultAt(bench, 'l', "={}\n.\"a\"=2", 4);
+        faultAt(bench, 'l', ".\"a\"={}\n.\"a\".\"b\"=2", 11);
         faultAt(bench, 'l', "[0].\"a\"=1\n[0][0]=2", 13);
         faultAt(bench, 'l', ".\"a\"=1\n.\"a\"=2", 10);
         faultAt(bench, 'l', ".\"a\"[0]=1\n.\"b\"=2\n.\"a\"[1]=3", 20);
@@ -349,6 +357,8 @@ public final class PromiseTest {
         due("7 depth 8", bench.read("[[[[[[[0]]]]]]]", 'b', 0), 8);
         faultAt(bench, 'b', "[[[[[[[[0]]]]]]]]", 8);
         faultAt(bench, 'b', "[[[[[[[[x", 8);
+        faultAt(bench, 'b', "[[[[[[[[,0]", 8);
+        faultAt(bench, 'p', "(((((((()0))))))", 16);
         faultAt(bench, 'b', "[[[[[[[{\"a\": 0", 13);
         faultAt(bench, 'p', "((((((((&1 0", 11);
         faultAt(bench, 'p', "((((((((&1&2 )", 13);
@@ -522,6 +532,12 @@ public final class PromiseTest {
         selects(bench, "[0]", "");
         selects(bench, "?.\"c\"?", "n7rn6");
         selects(bench, ".\"a\".\"a\"", "");
+        bench.read("[" + "1,".repeat(98) + "{}]", 'b', 1);
+        bench.put(1, "[98]", "k", 1);
+        for (int i = 0; i < 2; i++) {
+            due("12 200 values", bench.select(1, "?"), 200);
+            due("12 the last one", bench.select(1, "*.\"k\"[98]"), 1);
+        }
         bench.select(0, "?");
         fails("12 select", INDEX, () -> bench.mill.select(5, 4));
         fails("12 select", NONE, () -> bench.mill.select(5, 0));
@@ -663,6 +679,7 @@ public final class PromiseTest {
         due("19 fault", bench.put(0, "*x", "k", 1), -2);
         due("19 longest key", bench.put(0, "", "a".repeat(20), 1), 1);
         due("19 empty key", bench.put(0, "", "", 1), 1);
+        due("19 highest byte", bench.put(0, "", "~", 1), 1);
         bench.read("[[[[[[[[]]]]]]]]", 'b', 3);
         fails("19 too deep", UNSUPPORTED, () -> bench.put(3, "?", "", 1));
         fails("19 too deep", UNSUPPORTED, () -> bench.put(3, "[0][0][0][0][0][0]", "", 1));
@@ -689,6 +706,7 @@ public final class PromiseTest {
     private static void change() {
         changes("[1,2.50,-0,\"x\",[-0.5]]", '+', 5, 4, "[6,2.55,5,\"x\",[0.0]]");
         changes("[0,-0,1]", '+', 0, 1, "[0,0,1]");
+        changes("5", '+', 5, 1, "10");
         changes("[5,-0.05]", '+', -5, 2, "[0,-0.10]");
         changes("[0.05,-3,0,-0.0]", '*', -3, 3, "[-0.15,9,0,0.0]");
         changes("[1,-0]", '*', 1, 1, "[1,0]");
@@ -697,6 +715,8 @@ public final class PromiseTest {
         changes("[1.2599,-0.05]", 'c', 0, 2, "[1,-0]");
         changes("[1.2599]", 'c', 4, 0, "[1.2599]");
         changes("[0,-0,1,-2.0,null]", '-', 123456, 4, "[-0,0,-1,2.0,null]");
+        Bench number = with("-999999999");
+        fails("20 too many digits", ARITHMETIC, () -> number.change(0, "", '+', -1));
         Bench bench = with("[999999999,1]");
         fails("20 too many digits", ARITHMETIC, () -> bench.change(0, "*", '+', 1));
         fails("20 too many digits", ARITHMETIC, () -> bench.change(0, "*", '*', -999));
@@ -731,6 +751,11 @@ public final class PromiseTest {
         bench.read("[{},{}]", 'b', 1);
         due("21 without keys", bench.mill.columns(1, 2), 0);
         due("21 without keys", bench.write(2, 'b'), "{}");
+        String eight = "[{\"a\":1,\"b\":1,\"c\":1,\"d\":1,\"e\":1,\"f\":1,\"g\":1,\"h\":1}";
+        bench.read(eight + ",{}".repeat(22) + "]", 'b', 3);
+        due("21 193 values", bench.mill.columns(3, 4), 8);
+        bench.read(eight + ",{}".repeat(23) + "]", 'b', 3);
+        fails("21 too many by nothing", UNSUPPORTED, () -> bench.mill.columns(3, 4));
         StringBuilder many = new StringBuilder("[{\"a\":1}");
         for (int i = 1; i < 13; i++) {
             many.append(",{\"").append((char) ('a' + i)).append("\":1}");
@@ -793,6 +818,7 @@ public final class PromiseTest {
         differ("{\"a\":1,\"b\":2,\"c\":[1,2]}", "{\"c\":[3,4],\"b\":2,\"d\":1,\"e\":1}", 5);
         differ("[[1,2],[3]]", "[[1],[4]]", 2);
         differ("{}", "{\"a\":[1,2]}", 1);
+        differ("[[[[[[[1,2]]]]]]]", "[[[[[[[3,4]]]]]]]", 2);
         Bench bench = with("1");
         due("23 itself", bench.mill.differences(0, 0), 0);
         due("25 itself", bench.mill.areSame(0, 0), true);
@@ -828,6 +854,9 @@ public final class PromiseTest {
         merges("1", "{\"a\":1}", "{\"b\":1}", 1, "{\"a\":1}");
         merges("{}", "{\"x\":{\"a\":1}}", "{\"x\":{\"b\":1}}", 1, "{\"x\":{\"a\":1}}");
         merges("{\"x\":null}", "{\"x\":1}", "{}", 1, "{\"x\":1}");
+        String deep = "{\"a\":".repeat(7);
+        String ends = "}".repeat(7);
+        merges(deep + "1" + ends, deep + "2" + ends, deep + "3,\"b\":4" + ends, 1, deep + "2,\"b\":4" + ends);
     }
 
     private static void mergeTooMuch() {
@@ -857,6 +886,7 @@ public final class PromiseTest {
         due("27 depth", bench.mill.depth(2), 4);
         due("28 lost", bench.mill.lost(2), 0);
         due("28 lost", bench.mill.lost(3), 5);
+        due("28 lost", with("0.1").mill.lost(0), 1);
         for (int document : new int[] {-1, 4, 8}) {
             fails("26 values", NONE, () -> bench.mill.values(document));
             fails("27 depth", NONE, () -> bench.mill.depth(document));
