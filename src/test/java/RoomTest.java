@@ -6,19 +6,19 @@ public final class RoomTest {
     private static final ThreadMXBean THREADS = (ThreadMXBean) ManagementFactory.getThreadMXBean();
 
     public static void main(String[] args) {
-        calls(new Bench());
         long start = taken();
         Bench bench = new Bench();
         Bench.due("a new mill takes at most a megabyte", taken() - start < 1 << 20, true);
         bench.lay(0, "{\"a\":[1,2.50,{\"b\":\"x\\n\"}],\"c\":null}");
         bench.lay(1, "?");
         bench.lay(2, "k");
+        calls(bench);
         start = taken();
         for (int i = 0; i < 40; i++) {
             calls(bench);
         }
-        // What the machine itself takes now and then, such as for compiling, is far below one object a call.
-        Bench.due("400 calls take next to nothing", taken() - start < 1 << 15, true);
+        // One object a call would take more than twice as much.
+        Bench.due("400 calls take next to nothing", taken() - start < 1 << 12, true);
         Bench.end("RoomTest");
     }
 
@@ -28,9 +28,7 @@ public final class RoomTest {
 
     private static void calls(Bench bench) {
         RosettaMill mill = bench.mill;
-        if (mill.read(0, 'b', 0) < 0) {
-            return;
-        }
+        mill.read(0, 'b', 0);
         mill.read(0, 'b', 1);
         mill.put(1, 1, 2, 0);
         mill.write(1, 'p', 3);
