@@ -1542,6 +1542,7 @@ public final class RosettaMill {
         private final Texts page = new Texts(1, LONGEST_PAGE);
         private final int[] trail = new int[DEEPEST];
         private final int[] places = new int[DEEPEST];
+        private boolean parens;
         private boolean rising;
         private boolean shortest;
 
@@ -1550,61 +1551,39 @@ public final class RosettaMill {
             page.empty(0);
             rising = byRisingKeys;
             shortest = shortestNumbers;
-            if (dialect == 'b') {
-                writeBraces(document, 0, 1);
-            } else if (dialect == 'p') {
-                writeParens(document, 0, 1);
-            } else {
+            parens = dialect == 'p';
+            if (dialect == 'l') {
                 writeLines(document, 0, 1);
+            } else {
+                writeNested(document, 0, 1);
             }
             return page;
         }
 
-        private void writeBraces(Document document, int i, int level) {
+        private void writeNested(Document document, int i, int level) {
             if (level > DEEPEST || !document.isHolder(i)) {
                 writePlain(document, i);
                 return;
             }
             boolean map = document.kindAt(i) == 'm';
-            page.add(0, map ? '{' : '[');
-            int value = following(document, i, -1);
-            for (int n = 0; n < MOST_VALUES && value >= 0; n++) {
-                if (n > 0) {
-                    page.add(0, ',');
-                }
-                if (map) {
-                    writeText(document.keys(), value);
-                    page.add(0, ':');
-                }
-                writeBraces(document, value, level + 1);
-                value = following(document, i, value);
-            }
-            page.add(0, map ? '}' : ']');
-        }
-
-        private void writeParens(Document document, int i, int level) {
-            if (level > DEEPEST || !document.isHolder(i)) {
-                writeParensPlain(document, i);
-                return;
-            }
-            boolean map = document.kindAt(i) == 'm';
-            page.add(0, '(');
-            if (map) {
-                page.add(0, ':');
+            if (parens) {
+                writeWord(map ? "(:" : "(");
+            } else {
+                page.add(0, map ? '{' : '[');
             }
             int value = following(document, i, -1);
             for (int n = 0; n < MOST_VALUES && value >= 0; n++) {
                 if (n > 0) {
-                    page.add(0, ' ');
+                    page.add(0, parens ? ' ' : ',');
                 }
                 if (map) {
                     writeText(document.keys(), value);
-                    page.add(0, ' ');
+                    page.add(0, parens ? ' ' : ':');
                 }
-                writeParens(document, value, level + 1);
+                writeNested(document, value, level + 1);
                 value = following(document, i, value);
             }
-            page.add(0, ')');
+            page.add(0, parens ? ')' : map ? '}' : ']');
         }
 
         private void writeLines(Document document, int i, int level) {
@@ -1667,10 +1646,10 @@ public final class RosettaMill {
         private void writePlain(Document document, int i) {
             switch (document.kindAt(i)) {
                 case 'z':
-                    writeWord("null");
+                    writeWord(parens ? "n" : "null");
                     break;
                 case 'b':
-                    writeWord(document.numberAt(i) == 1 ? "true" : "false");
+                    writeTruth(document.numberAt(i) == 1);
                     break;
                 case 'n':
                     writeNumber(document, i);
@@ -1681,17 +1660,11 @@ public final class RosettaMill {
             }
         }
 
-        private void writeParensPlain(Document document, int i) {
-            switch (document.kindAt(i)) {
-                case 'z':
-                    page.add(0, 'n');
-                    break;
-                case 'b':
-                    page.add(0, document.numberAt(i) == 1 ? 'y' : 'f');
-                    break;
-                default:
-                    writePlain(document, i);
-                    break;
+        private void writeTruth(boolean truth) {
+            if (parens) {
+                page.add(0, truth ? 'y' : 'f');
+            } else {
+                writeWord(truth ? "true" : "false");
             }
         }
 
