@@ -10,7 +10,8 @@ public final class FaultTest {
         ".", "null", "true", "false", "nu", " ", "\n", "#", "\\", "\\n", "12345678", "a", "{\"a\":", ",\"a\":", "[1,",
         "[[[[[[", "\"abcdefghijklmnopqrs", "\t"};
     private static final String[] PAREN_PARTS = {"(", ")", "(:", "\"a\"", "\"b\"", "\"", "n", "y", "f", "1", "0", "-",
-        ".", " ", "\n", "#", "&1", "*1", "&2", "*2", "&", "*", "\\", "12345678", "((((((", "(:\"a\"", "a", "(1 2)"};
+        ".", " ", "\n", "#", "&1", "*1", "&2", "*2", "&", "*", "\\", "12345678", "((((((", "(:\"a\"", "a", "(1 2)",
+        "&1(n n n n n n n n n)", "&1(*1*1*1*1)", "*1*1*1*1*1", "(*1", "(:\"a\" &2 *1 \"a\" &1 *2", "&1(&2*1*2"};
     private static final String[] LINE_PARTS = {"[0]", "[1]", "[2]", "[", "]", "0", "1", "=1\n", "=\"a\"\n", "=null\n",
         "=", "\n", ".\"a\"", ".\"b\"", ".", "\"", "a", "[]\n", "{}\n", "=[]\n", "[0][0]", "-", " ", "\\n",
         "[0][0][0][0][0]", "[3]"};
@@ -72,7 +73,7 @@ public final class FaultTest {
     /** A text whose parts mostly can follow one another. */
     private static String grown(Chance chance, char dialect, String[] parts, String settings) {
         StringBuilder text = new StringBuilder();
-        int many = chance.below(14);
+        int many = chance.below(17);
         for (int i = 0; i < many; i++) {
             for (int tries = 0; tries < 30; tries++) {
                 String part = chance.of(parts);
