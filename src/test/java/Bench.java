@@ -38,8 +38,13 @@ final class Bench {
     void lay(int tape, String text) {
         byte[] bytes = text.getBytes(StandardCharsets.ISO_8859_1);
         mill.clear(tape);
-        for (byte value : bytes) {
-            mill.type(tape, value, 1);
+        for (int i = 0; i < bytes.length; i += 4) {
+            int many = Math.min(4, bytes.length - i);
+            int typed = 0;
+            for (int j = 0; j < many; j++) {
+                typed = typed << 8 | bytes[i + j] & 255;
+            }
+            mill.type(tape, typed, many);
         }
     }
 
@@ -55,6 +60,16 @@ final class Bench {
     int read(String text, char dialect, int document) {
         lay(3, text);
         return mill.read(3, dialect, document);
+    }
+
+    /** Reads a text that can be longer than a tape, by way of tape 3. */
+    int readLong(String text, char dialect, int document) {
+        mill.begin(dialect);
+        for (int i = 0; i < text.length(); i += 240) {
+            lay(3, text.substring(i, Math.min(text.length(), i + 240)));
+            mill.piece(3);
+        }
+        return mill.finish(document);
     }
 
     /** Writes a document by way of tape 3. */
