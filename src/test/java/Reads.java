@@ -1,8 +1,20 @@
 /** Holds texts that are read, at once and in pieces, against what is due. Settings are told as "bc1 bt2". */
 final class Reads {
+    static final String DIGITS = "0123456789";
+    static final String TWENTY = "abcdefghijklmnopqrst";
+    static final String PRINTED = printed();
     private static final String BEFORE = "\"as it was\"";
 
     private Reads() {
+    }
+
+    /** The bytes from 32 to 126. */
+    private static String printed() {
+        StringBuilder bytes = new StringBuilder();
+        for (char value = 32; value <= 126; value++) {
+            bytes.append(value);
+        }
+        return bytes.toString();
     }
 
     static Bench bench(String settings) {
