@@ -1,4 +1,4 @@
-/** The sentences of "Terms", what is said of the core and of what the dialects share, one test for each sentence at its edges. */
+/** "Terms", of the core and of what the dialects share: each sentence at the edges that it names. */
 final class CoreEdges {
     private CoreEdges() {
     }
@@ -38,8 +38,8 @@ final class CoreEdges {
     }
 
     private static void sameCore() {
-        says("Texts, settings, pieces and edits come by calls; values, places, sums and losses are asked. What is written "
-            + "and read again is the same core, and a text read in pieces is the same as all at once.");
+        says("Texts, settings, pieces and edits come by calls; values, places, sums and losses are asked. What is "
+            + "written and read again is the same core, and a text read in pieces is the same as all at once.");
         Bench bench = new Bench();
         String text = "{\"b\":[null,true,-0.50,-0],\"a\":{\"\":\"\\n\\\"\\\\\"},\"c\":[[],{}]}";
         bench.read(text, 'b', 0);
@@ -59,8 +59,8 @@ final class CoreEdges {
     }
 
     private static void kindsOfValues() {
-        says("Core. A value is nothing, a truth, a number, a text, a row of values, or a map of values by keys, which are "
-            + "texts, in the order in which they came.");
+        says("Core. A value is nothing, a truth, a number, a text, a row of values, or a map of values by keys, which "
+            + "are texts, in the order in which they came.");
         Reads.to("", 'b', "[null,true,false,0,\"\",[0],{\"\":0}]", "[null,true,false,0,\"\",[0],{\"\":0}]");
         Reads.to("", 'b', "{\"b\":1,\"a\":2,\"\":3,\"B\":4}", "{\"b\":1,\"a\":2,\"\":3,\"B\":4}");
         Reads.to("", 'p', "(:\"b\"1\"a\"2\"\"3)", "{\"b\":1,\"a\":2,\"\":3}");
@@ -81,7 +81,8 @@ final class CoreEdges {
     }
 
     private static void numberWith(int ahead, int behind, String sign) {
-        String number = sign + "1234567890".substring(0, ahead) + (behind > 0 ? "." + "54321".substring(0, behind) : "");
+        String point = behind > 0 ? "." + "54321".substring(0, behind) : "";
+        String number = sign + "1234567890".substring(0, ahead) + point;
         for (char dialect : "bpl".toCharArray()) {
             if (ahead + behind <= 9 && behind <= 4) {
                 Reads.to("", dialect, inDialect(dialect, number), number);
@@ -159,13 +160,15 @@ final class CoreEdges {
 
     private static void bytesOfTexts() {
         says("each 10 or from 32 to 126.");
-        String allowed = Reads.PRINTED;
-        Reads.next("", 'b', "\"a", allowed);
-        Reads.next("", 'b', "{\"a", allowed);
-        Reads.next("", 'p', "\"a", allowed);
-        Reads.next("", 'p', "(:\"a", allowed);
-        Reads.next("", 'l', "=\"a", allowed);
-        Reads.next("", 'l', ".\"a", allowed);
+        for (String beginning : new String[] {"\"a", "{\"a"}) {
+            Reads.next("", 'b', beginning, Reads.PRINTED);
+        }
+        for (String beginning : new String[] {"\"a", "(:\"a"}) {
+            Reads.next("", 'p', beginning, Reads.PRINTED);
+        }
+        for (String beginning : new String[] {"=\"a", ".\"a"}) {
+            Reads.next("", 'l', beginning, Reads.PRINTED);
+        }
         for (int i = 0; i < Reads.PRINTED.length(); i++) {
             char value = Reads.PRINTED.charAt(i);
             String text = "\"" + (value == '"' || value == '\\' ? "\\" : "") + value + "\"";
@@ -175,7 +178,8 @@ final class CoreEdges {
     }
 
     private static void depthOfValues() {
-        says("The depth of a value is 1, and of a row or a map with something in it 1 more than that of its deepest value;");
+        says("The depth of a value is 1, and of a row or a map with something in it 1 more than that of its deepest "
+            + "value;");
         String[] texts = {"null", "\"\"", "[]", "{}", "[0]", "{\"a\":0}", "[[]]", "[0,[0],0]", "{\"a\":[{}],\"b\":0}",
             "[[[0]],[[[0]]],[0]]"};
         int[] depths = {1, 1, 1, 1, 2, 2, 2, 3, 3, 5};
@@ -228,12 +232,13 @@ final class CoreEdges {
     }
 
     private static void sameValues() {
-        says("Two values are the same if they are of the same kind, and the same truth, number whatever its notation, or "
-            + "text, or rows of the same values in the same order, or maps with the same keys, in any order, and the same "
-            + "values for them.");
-        String[] values = {"null", "true", "false", "0", "1", "-1", "10", "1.5", "-1.5", "999999999", "99999.9999", "\"\"",
-            "\"0\"", "\"null\"", "\"a\"", "\"b\"", "\"ab\"", "[]", "{}", "[null]", "[0]", "[[]]", "[0,1]", "[1,0]", "[0,0]",
-            "{\"a\":0}", "{\"b\":0}", "{\"a\":1}", "{\"a\":0,\"b\":1}", "{\"a\":1,\"b\":0}", "[{\"a\":0}]"};
+        says("Two values are the same if they are of the same kind, and the same truth, number whatever its notation, "
+            + "or text, or rows of the same values in the same order, or maps with the same keys, in any order, and "
+            + "the same values for them.");
+        String[] values = {"null", "true", "false", "0", "1", "-1", "10", "1.5", "-1.5", "999999999", "99999.9999",
+            "\"\"", "\"0\"", "\"null\"", "\"a\"", "\"b\"", "\"ab\"", "[]", "{}", "[null]", "[0]", "[[]]", "[0,1]",
+            "[1,0]", "[0,0]", "{\"a\":0}", "{\"b\":0}", "{\"a\":1}", "{\"a\":0,\"b\":1}", "{\"a\":1,\"b\":0}",
+            "[{\"a\":0}]"};
         for (int i = 0; i < values.length; i++) {
             for (int j = 0; j < values.length; j++) {
                 same(values[i], values[j], i == j);
@@ -259,8 +264,8 @@ final class CoreEdges {
     }
 
     private static void writtenNumbers() {
-        says("Common. A number is written as it stands: - if it is less than 0, or its notation says so, digits without "
-            + "zeros ahead, 0 for none, and a point with the digits behind it.");
+        says("Common. A number is written as it stands: - if it is less than 0, or its notation says so, digits "
+            + "without zeros ahead, 0 for none, and a point with the digits behind it.");
         Bench bench = new Bench();
         String text = "[0,-0,0.0,-0.00,5,-5,10,0.05,-0.05,0.50,100.0,-999999999,99999.9999,0.0001,-0.0000]";
         bench.read(text, 'b', 0);
@@ -272,8 +277,8 @@ final class CoreEdges {
     }
 
     private static void writtenTexts() {
-        says("A text is written between two \", with \\ ahead of each \" and \\, and \\n for the byte 10, which does not stand "
-            + "there itself.");
+        says("A text is written between two \", with \\ ahead of each \" and \\, and \\n for the byte 10, which does "
+            + "not stand there itself.");
         String text = "{\"\\\"\\\\\\n\":\"\\n\\\\\\\"n\"}";
         for (char dialect : "bp".toCharArray()) {
             String written = dialect == 'b' ? text : "(:\"\\\"\\\\\\n\" \"\\n\\\\\\\"n\")";
@@ -304,7 +309,8 @@ final class CoreEdges {
     }
 
     private static void comments() {
-        says("comments, if they are on in the dialect, go from # up to the next byte 10 or the end, and count as blanks.");
+        says("comments, if they are on in the dialect, go from # up to the next byte 10 or the end, and count as "
+            + "blanks.");
         for (char dialect : "bp".toCharArray()) {
             String on = dialect + "c1";
             String other = dialect == 'b' ? "pc1" : "bc1";

@@ -1,4 +1,4 @@
-/** The sentences of "Terms", what is said of the dialects, one test for each sentence at its edges. */
+/** "Terms", of the dialects: each sentence at the edges that it names. */
 final class DialectEdges {
     private DialectEdges() {
     }
@@ -29,10 +29,11 @@ final class DialectEdges {
     }
 
     private static void braces() {
-        says("Dialects. 'b', braces: a value is null, true, false, a number, a text, a row as [ and ] with its values parted "
-            + "by , between, or a map as { and } with its pairs parted by , between, each a text, : and the value.");
-        for (String text : new String[] {"null", "true", "false", "-7.25", "\"x\"", "[]", "{}", "[1]", "[1,2]", "{\"a\":1}",
-            "{\"a\":1,\"b\":[{\"c\":{}}]}"}) {
+        says("Dialects. 'b', braces: a value is null, true, false, a number, a text, a row as [ and ] with its values "
+            + "parted by , between, or a map as { and } with its pairs parted by , between, each a text, : and the "
+            + "value.");
+        for (String text : new String[] {"null", "true", "false", "-7.25", "\"x\"", "[]", "{}", "[1]", "[1,2]",
+            "{\"a\":1}", "{\"a\":1,\"b\":[{\"c\":{}}]}"}) {
             Reads.to("", 'b', text, text);
         }
         for (String word : new String[] {"null", "true", "false"}) {
@@ -57,8 +58,8 @@ final class DialectEdges {
 
     private static void blanksInBraces() {
         says("Blanks can stand between all of these, and at both ends.");
-        String[] parts = {"", "[", "{", "\"a\"", ":", "null", ",", "\"b\"", ":", "-1.5", "}", ",", "\"c\"", ",", "{", "}", ",",
-            "[", "]", "]", ""};
+        String[] parts = {"", "[", "{", "\"a\"", ":", "null", ",", "\"b\"", ":", "-1.5", "}", ",", "\"c\"", ",", "{",
+            "}", ",", "[", "]", "]", ""};
         String whole = String.join("", parts);
         for (String blank : new String[] {" ", "\n", " \n "}) {
             Reads.to("", 'b', String.join(blank, parts), whole);
@@ -92,10 +93,10 @@ final class DialectEdges {
     }
 
     private static void parens() {
-        says("'p', parens: a value is n for nothing, y and f for the truths, a number, a text, a row as ( and ) with its "
-            + "values between, or a map as (: and ) with a text and a value again and again between.");
-        String[] parens = {"n", "y", "f", "-7.25", "\"x\"", "()", "(:)", "(1)", "(1 2)", "(:\"a\"1)", "(:\"a\"(:\"b\"(:))\"c\"n)",
-            "(()(:)\"\"())"};
+        says("'p', parens: a value is n for nothing, y and f for the truths, a number, a text, a row as ( and ) with "
+            + "its values between, or a map as (: and ) with a text and a value again and again between.");
+        String[] parens = {"n", "y", "f", "-7.25", "\"x\"", "()", "(:)", "(1)", "(1 2)", "(:\"a\"1)",
+            "(:\"a\"(:\"b\"(:))\"c\"n)", "(()(:)\"\"())"};
         String[] braces = {"null", "true", "false", "-7.25", "\"x\"", "[]", "{}", "[1]", "[1,2]", "{\"a\":1}",
             "{\"a\":{\"b\":{}},\"c\":null}", "[[],{},\"\",[]]"};
         for (int i = 0; i < parens.length; i++) {
@@ -119,8 +120,8 @@ final class DialectEdges {
 
     private static void blanksInParens() {
         says("Blanks can stand as in 'b', but not between ( and :,");
-        String[] parts = {"", "(", "(:", "\"a\"", "n", "\"b\"", "-1.5", ")", "y", "&1", "&2", "5", "*1", "()", "(:", ")", ")",
-            ""};
+        String[] parts = {"", "(", "(:", "\"a\"", "n", "\"b\"", "-1.5", ")", "y", "&1", "&2", "5", "*1", "()", "(:",
+            ")", ")", ""};
         for (String blank : new String[] {" ", "\n", " \n "}) {
             Reads.to("", 'p', String.join(blank, parts), "[{\"a\":null,\"b\":-1.5},true,5,5,[],{}]");
         }
@@ -161,8 +162,8 @@ final class DialectEdges {
     }
 
     private static void namesFromTheEndOn() {
-        says("& and a digit ahead of a value, with blanks behind the digit or not, also several times, names it by this digit "
-            + "from its end on;");
+        says("& and a digit ahead of a value, with blanks behind the digit or not, also several times, names it by "
+            + "this digit from its end on;");
         for (int name = 0; name <= 9; name++) {
             Reads.to("", 'p', "(&" + name + "n*" + name + ")", "[null,null]");
             Reads.to("", 'p', "(&" + name + "\n n *" + name + ")", "[null,null]");
@@ -174,7 +175,7 @@ final class DialectEdges {
         Reads.to("", 'p', "&5\"x\"", "\"x\"");
         Reads.fault("", 'p', "(&1(*1))", 5);
         Reads.fault("", 'p', "&1(:\"a\"*1)", 8);
-        Reads.fault("", 'p', "(&1*1)", 5 - 1);
+        Reads.fault("", 'p', "(&1*1)", 4);
         Reads.to("", 'p', "(&1 5&1(*1 6)*1)", "[5,[5,6],[5,6]]");
         Reads.to("", 'p', "((&1 5)*1)", "[[5],5]");
         Reads.next("", 'p', "(&", Reads.DIGITS);
@@ -202,8 +203,8 @@ final class DialectEdges {
     }
 
     private static void lines() {
-        says("'l', lines: a row or map with something in it has the lines of its values, one behind the other, each with [ the "
-            + "index ] or . and the key as a text ahead, behind what leads to the row or map itself;");
+        says("'l', lines: a row or map with something in it has the lines of its values, one behind the other, each "
+            + "with [ the index ] or . and the key as a text ahead, behind what leads to the row or map itself;");
         Reads.to("", 'l', "[0]=1\n", "[1]");
         Reads.to("", 'l', ".\"a\\\"\"=1\n", "{\"a\\\"\":1}");
         Reads.to("", 'l', "[0][0]=1\n[0][1]=2\n[1].\"a\"[0]=3\n[1].\"a\"[1]=4\n[1].\"b\"=5\n[2]=6\n",
@@ -230,8 +231,8 @@ final class DialectEdges {
     }
 
     private static void lineLeaves() {
-        says("any other value has one line, of what leads to it, = and the value as in 'b', with [] and {} for rows and maps "
-            + "without anything, and the byte 10.");
+        says("any other value has one line, of what leads to it, = and the value as in 'b', with [] and {} for rows "
+            + "and maps without anything, and the byte 10.");
         for (String leaf : new String[] {"null", "true", "false", "-0.50", "\"=\\n\"", "[]", "{}"}) {
             Reads.to("", 'l', "=" + leaf + "\n", leaf);
             Reads.to("", 'l', "[0]=" + leaf + "\n[1]=" + leaf + "\n", "[" + leaf + "," + leaf + "]");
@@ -243,7 +244,7 @@ final class DialectEdges {
         Reads.next("", 'l', "[0]=[", "]");
         Reads.next("", 'l', "[0]={", "}");
         Reads.next("", 'l', "", "[.=");
-        Reads.fault("", 'l', "[0]=y", 4 + 0);
+        Reads.fault("", 'l', "[0]=y", 4);
         Reads.fault("", 'l', "5", 0);
         Bench bench = new Bench();
         bench.read("[[],{},[[]],{\"a\":{}}]", 'b', 0);
@@ -280,8 +281,8 @@ final class DialectEdges {
     }
 
     private static void twins() {
-        says("In 'b' and 'p', twins are told by a setting: a key that its map has already is refused, or its value is read and "
-            + "left out, or it takes the place of the one ahead, at that place.");
+        says("In 'b' and 'p', twins are told by a setting: a key that its map has already is refused, or its value is "
+            + "read and left out, or it takes the place of the one ahead, at that place.");
         String braces = "{\"a\":1,\"b\":2,\"a\":3,\"c\":4,\"a\":5}";
         String parens = "(:\"a\"1\"b\"2\"a\"3\"c\"4\"a\"5)";
         Reads.fault("", 'b', braces, 15);
@@ -306,8 +307,8 @@ final class DialectEdges {
     }
 
     private static void twinsInLines() {
-        says("In 'l', each value comes once, in its order; a key that its map has already, and that the line does not go on in, "
-            + "is refused.");
+        says("In 'l', each value comes once, in its order; a key that its map has already, and that the line does not "
+            + "go on in, is refused.");
         for (String settings : new String[] {"", "bt1 pt1", "bt2 pt2"}) {
             Reads.fault(settings, 'l', ".\"a\"=1\n.\"a\"=2\n", 10);
             Reads.fault(settings, 'l', ".\"a\"=1\n.\"b\"=2\n.\"a\"=3\n", 17);
@@ -325,7 +326,8 @@ final class DialectEdges {
         Reads.fault("", 'l', "[0].\"a\"=1\n[0][0]=1\n", 13);
         Reads.fault("", 'l', "=1\n[0]=1\n", 3);
         Reads.fault("", 'l', "={}\n.\"a\"=1\n", 4);
-        Reads.to("", 'l', ".\"a\".\"b\"=1\n.\"a\".\"a\"=2\n.\"b\".\"a\"=3\n", "{\"a\":{\"b\":1,\"a\":2},\"b\":{\"a\":3}}");
+        Reads.to("", 'l', ".\"a\".\"b\"=1\n.\"a\".\"a\"=2\n.\"b\".\"a\"=3\n",
+            "{\"a\":{\"b\":1,\"a\":2},\"b\":{\"a\":3}}");
         Reads.to("", 'l', "[0].\"a\"=1\n[1].\"a\"=2\n", "[{\"a\":1},{\"a\":2}]");
     }
 }

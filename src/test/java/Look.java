@@ -1,4 +1,4 @@
-/** All that can be asked of a mill, in a text, so that two mills can be held against each other; it uses the mill up. */
+/** All that can be asked of a mill, as a text, to hold two mills against each other; it uses the mill up. */
 final class Look {
     private static final String SETTINGS = "bc be bs bt pc ps pt ls";
 

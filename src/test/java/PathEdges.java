@@ -67,7 +67,8 @@ final class PathEdges {
     }
 
     private static void selectFaults() {
-        says(12, "Returns how many, or with a fault of the path, told as in 'l', -1 less its place, and what was selected stays.");
+        says(12, "Returns how many, or with a fault of the path, told as in 'l', -1 less its place, and what was "
+            + "selected stays.");
         Bench bench = with(FULL, "0", TEXT);
         due("200", bench.select(0, "?"), 200);
         due("199", bench.select(0, "*"), 199);
@@ -75,9 +76,9 @@ final class PathEdges {
         due("0", bench.select(1, "*"), 0);
         fails(Ranges.INDEX, () -> bench.mill.kindOf(0));
         due("3", bench.select(2, "*"), 3);
-        String[] faults = {"x", " ", "=", "*x", "*?*?*=", "[", "[]", "[x]", "[0", "[00]", "[01]", "[1000]", "[0000]", "[0]]",
-            ".", ".a", ".\"", ".\"a", ".\"\\x\"", ".\"a\"\"", ".\"aaaaaaaaaaaaaaaaaaaaa\"", ".\"\n\"", "*".repeat(239) + "x",
-            "*".repeat(239) + "["};
+        String[] faults = {"x", " ", "=", "*x", "*?*?*=", "[", "[]", "[x]", "[0", "[00]", "[01]", "[1000]", "[0000]",
+            "[0]]", ".", ".a", ".\"", ".\"a", ".\"\\x\"", ".\"a\"\"", ".\"aaaaaaaaaaaaaaaaaaaaa\"", ".\"\n\"",
+            "*".repeat(239) + "x", "*".repeat(239) + "["};
         int[] places = {0, 0, 0, 1, 5, 1, 1, 1, 2, 2, 2, 4, 2, 3, 1, 1, 2, 3, 3, 4, 22, 2, 239, 240};
         for (int i = 0; i < faults.length; i++) {
             due(faults[i], bench.select(2, faults[i]), -1 - places[i]);
@@ -126,8 +127,8 @@ final class PathEdges {
     }
 
     private static void sizeOf() {
-        says(14, "Returns how much there is of a selected value: 1 or 0 for a truth, the digits behind the point of a number, the "
-            + "bytes of a text, the values directly in a row or map, 0 for nothing.");
+        says(14, "Returns how much there is of a selected value: 1 or 0 for a truth, the digits behind the point of a "
+            + "number, the bytes of a text, the values directly in a row or map, 0 for nothing.");
         says(14, "Returns how much.");
         String[] texts = {"null", "true", "false", "0", "-5", "5.0", "0.0000", "-99999.9999", "\"\"", "\"\\n\\\\\\\"\"",
             "\"abcdefghijklmnopqrst\"", "[]", "[[1,2],3]", "{}", "{\"a\":{\"b\":0,\"c\":0}}", FULL};
@@ -160,11 +161,11 @@ final class PathEdges {
 
     private static void floatOf() {
         says(16, "Returns the bits of a selected number as a float.");
-        says(16, "Returns the bits of the number without its point as a double, divided by 10 to the power of how many digits are "
-            + "behind the point, converted to float;");
-        int[] numbers = {1, 2, 3, 5, 9, 10, 15, 25, 99, 100, 127, 128, 255, 256, 999, 1000, 3125, 6250, 9999, 10000, 65535,
-            65536, 99999, 100000, 8388607, 8388608, 8388609, 16777215, 16777216, 16777217, 16777218, 16777219, 33554431,
-            33554433, 33554434, 67108863, 123456789, 268435455, 536870911, 536870912, 999999999, 999999983};
+        says(16, "Returns the bits of the number without its point as a double, divided by 10 to the power of how many "
+            + "digits are behind the point, converted to float;");
+        int[] numbers = {1, 2, 3, 5, 9, 10, 15, 25, 99, 100, 127, 128, 255, 256, 999, 1000, 3125, 6250, 9999, 10000,
+            65535, 65536, 99999, 100000, 8388607, 8388608, 8388609, 16777215, 16777216, 16777217, 16777218, 16777219,
+            33554431, 33554433, 33554434, 67108863, 123456789, 268435455, 536870911, 536870912, 999999999, 999999983};
         for (int number : numbers) {
             for (int behind = 0; behind <= 4; behind++) {
                 for (String sign : new String[] {"", "-"}) {
@@ -236,7 +237,7 @@ final class PathEdges {
         }
         for (int depth = 1; depth <= 8; depth++) {
             for (int level = 1; level <= 8; level++) {
-                Bench bench = with("[".repeat(7) + "0" + "]".repeat(7), "[".repeat(depth - 1) + "0" + "]".repeat(depth - 1));
+                Bench bench = with(deep(8), deep(depth));
                 String path = "*".repeat(level - 1);
                 if (level - 1 + depth <= 8) {
                     due(path + " " + depth, bench.replace(0, path, 1), 1);
@@ -247,6 +248,10 @@ final class PathEdges {
                 }
             }
         }
+    }
+
+    private static String deep(int depth) {
+        return "[".repeat(depth - 1) + "0" + "]".repeat(depth - 1);
     }
 
     private static void limited(Bench bench, Bench.Call call, int answer, int values) {
@@ -286,8 +291,8 @@ final class PathEdges {
     }
 
     private static void removeAnswers() {
-        says(18, "Returns how many were taken out, one within another one that was not counted, or with a fault of the path -1 "
-            + "less its place.");
+        says(18, "Returns how many were taken out, one within another one that was not counted, or with a fault of the "
+            + "path -1 less its place.");
         removes("[1,[2,3],{\"a\":4,\"b\":5}]", "?", 3, "[]");
         removes("[[[[1]]],2]", "*?", 2, "[]");
         removes("[[[[1]]],2]", "**?", 1, "[[],2]");
@@ -309,8 +314,8 @@ final class PathEdges {
     }
 
     private static void put() {
-        says(19, "Puts a document into all rows and maps that a path selects, as they are ahead of this, the outer ones too: at "
-            + "the end of rows, and of maps, by a key, or in the place of what they have by it.");
+        says(19, "Puts a document into all rows and maps that a path selects, as they are ahead of this, the outer "
+            + "ones too: at the end of rows, and of maps, by a key, or in the place of what they have by it.");
         puts("[]", "", "9", 1, "[9]");
         puts("{}", "", "9", 1, "{\"k\":9}");
         puts("[1,2]", "", "[9]", 1, "[1,2,[9]]");
@@ -393,7 +398,7 @@ final class PathEdges {
     private static void putDepth() {
         for (int depth = 1; depth <= 8; depth++) {
             for (int level = 1; level <= 8; level++) {
-                Bench bench = with(DEEP, "[".repeat(depth - 1) + "0" + "]".repeat(depth - 1));
+                Bench bench = with(DEEP, deep(depth));
                 String path = "*".repeat(level - 1);
                 if (level + depth <= 8) {
                     due(path + " " + depth, bench.put(0, path, "k", 1), 1);
@@ -429,9 +434,9 @@ final class PathEdges {
     }
 
     private static void changeByOperation() {
-        says(20, "- `op`: '+' a number is added to the digits, '*' they are multiplied by it, both without a - at 0 then, 'c' "
-            + "digits behind the point beyond so many are cut off, with the - as it is, '-' its sign becomes the other one, of a "
-            + "0 its notation");
+        says(20, "- `op`: '+' a number is added to the digits, '*' they are multiplied by it, both without a - at 0 "
+            + "then, 'c' digits behind the point beyond so many are cut off, with the - as it is, '-' its sign becomes "
+            + "the other one, of a 0 its notation");
         changes("[0,1.5,-0.05,99.99,-1]", "*", '+', 1, 5, "[1,1.6,-0.04,100.00,0]");
         changes("[-0,-0.00,0]", "*", '+', 0, 2, "[0,0.00,0]");
         changes("[1,0.01,-1]", "*", '+', -1, 3, "[0,0.00,-2]");
@@ -462,8 +467,8 @@ final class PathEdges {
     }
 
     private static void changeAnswers() {
-        says(20, "Returns how many were changed, as far as a number became another one or got another notation, or with a fault of "
-            + "the path -1 less its place.");
+        says(20, "Returns how many were changed, as far as a number became another one or got another notation, or "
+            + "with a fault of the path -1 less its place.");
         changes("[1,2,0]", "*", '+', 0, 0, "[1,2,0]");
         changes("[1,2,-0]", "*", '+', 0, 1, "[1,2,0]");
         changes("[1,0,2]", "*", '*', 0, 2, "[0,0,0]");

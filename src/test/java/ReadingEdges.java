@@ -1,4 +1,4 @@
-/** The sentences of "Terms", what is said of reading, writing and paths, one test for each sentence at its edges. */
+/** "Terms", of reading, writing and paths: each sentence at the edges that it names. */
 final class ReadingEdges {
     private ReadingEdges() {
     }
@@ -41,8 +41,8 @@ final class ReadingEdges {
     }
 
     private static void endsTooEarly() {
-        says("Its fault is the place of the first byte with which no text of the dialect goes on, whatever might follow, its "
-            + "limits and settings regarded, or its length, if it ends too early.");
+        says("Its fault is the place of the first byte with which no text of the dialect goes on, whatever might "
+            + "follow, its limits and settings regarded, or its length, if it ends too early.");
         String braces = " { \"a\\n\" : [ null , true,false,-12.50,\"\",{},[] ] }";
         for (int i = 0; i < braces.length(); i++) {
             Reads.fault("", 'b', braces.substring(0, i), i);
@@ -125,8 +125,9 @@ final class ReadingEdges {
     }
 
     private static void faultOfTooDeep() {
-        says("What would be too many values or too deep is told by the first byte of this value, without & and what belongs to "
-            + "it, by the digit of a name behind *, and in 'l' by the [ or . that leads to it, and never ahead of this;");
+        says("What would be too many values or too deep is told by the first byte of this value, without & and what "
+            + "belongs to it, by the digit of a name behind *, and in 'l' by the [ or . that leads to it, and never "
+            + "ahead of this;");
         for (String value : new String[] {"null", "-1", "\"a\"", "[]", "{}", "x"}) {
             Reads.fault("", 'b', "[[[[[[[[" + value, 8);
             Reads.fault("", 'b', "[[[[[[[{ \"a\" : " + value, 15);
@@ -204,8 +205,9 @@ final class ReadingEdges {
             Reads.count(settings, 'b', twins + "}", 2);
             Reads.count(settings, 'b', "[" + "0,".repeat(197) + "{}]", 199);
             String rest = ",\"a\":[0" + ",0".repeat(119) + "]";
-            Reads.count(settings, 'b', "{\"a\":[0" + ",0".repeat(75) + "]" + rest + "}", settings.equals("bt1") ? 78 : 122);
-            Reads.count(settings, 'b', "{\"a\":[0" + ",0".repeat(76) + "]" + rest + "}", settings.equals("bt1") ? 79 : 122);
+            boolean keepsFirst = settings.equals("bt1");
+            Reads.count(settings, 'b', "{\"a\":[0" + ",0".repeat(75) + "]" + rest + "}", keepsFirst ? 78 : 122);
+            Reads.count(settings, 'b', "{\"a\":[0" + ",0".repeat(76) + "]" + rest + "}", keepsFirst ? 79 : 122);
             String first = "{\"a\":[0" + ",0".repeat(77) + "]";
             Reads.fault(settings, 'b', first + rest + "}", first.length() + rest.length() - 2);
             Reads.fault(settings, 'b', "{\"a\":0,\"a\":[[[[[[[0]]]]]]]}", 18);
@@ -219,8 +221,8 @@ final class ReadingEdges {
     }
 
     private static void writing() {
-        says("Writing. In 'b', nothing stands between but , and : alone; in 'p', one blank stands between two values, keys too, "
-            + "and none at ( and ) or behind (: ; nothing is named.");
+        says("Writing. In 'b', nothing stands between but , and : alone; in 'p', one blank stands between two values, "
+            + "keys too, and none at ( and ) or behind (: ; nothing is named.");
         Bench bench = new Bench();
         due("read", bench.read(" ( &1 n *1 (: \"a\" 1 \"b\" ( ) ) ( ( 2 ) (: ) ) \"x\" y)", 'p', 0), 12);
         due("b", bench.write(0, 'b'), "[null,null,{\"a\":1,\"b\":[]},[[2],{}],\"x\",true]");
@@ -233,8 +235,10 @@ final class ReadingEdges {
 
     private static void risingKeys() {
         says("If it is on, maps are written by rising keys, by bytes, a shorter one ahead of those that it begins.");
-        String text = "{\"b\":0,\"~\":1,\"a\\n\":2,\"a\":3,\"\":4,\" \":5,\"aa\":6,\"\\n\":7,\"B\":{\"z\":[{\"d\":8,\"c\":9}],\"y\":0}}";
-        String rising = "{\"\":4,\"\\n\":7,\" \":5,\"B\":{\"y\":0,\"z\":[{\"c\":9,\"d\":8}]},\"a\":3,\"a\\n\":2,\"aa\":6,\"b\":0,\"~\":1}";
+        String text = "{\"b\":0,\"~\":1,\"a\\n\":2,\"a\":3,\"\":4,"
+            + "\" \":5,\"aa\":6,\"\\n\":7,\"B\":{\"z\":[{\"d\":8,\"c\":9}],\"y\":0}}";
+        String rising = "{\"\":4,\"\\n\":7,"
+            + "\" \":5,\"B\":{\"y\":0,\"z\":[{\"c\":9,\"d\":8}]},\"a\":3,\"a\\n\":2,\"aa\":6,\"b\":0,\"~\":1}";
         Bench bench = Reads.bench("bs1");
         bench.read(text, 'b', 0);
         due("b", bench.write(0, 'b'), rising);
@@ -247,7 +251,8 @@ final class ReadingEdges {
         bench.mill.set('p', 's', 0);
         bench.mill.set('l', 's', 1);
         due("p", bench.write(0, 'p').startsWith("(:\"b\" 0 \"~\" 1"), true);
-        due("l", bench.write(0, 'l').startsWith(".\"\"=4\n.\"\\n\"=7\n.\" \"=5\n.\"B\".\"y\"=0\n.\"B\".\"z\"[0].\"c\"=9\n"), true);
+        String lines = ".\"\"=4\n.\"\\n\"=7\n.\" \"=5\n.\"B\".\"y\"=0\n.\"B\".\"z\"[0].\"c\"=9\n";
+        due("l", bench.write(0, 'l').startsWith(lines), true);
         bench.read("{\"az\":1,\"aa\":2}", 'b', 0);
         bench.read("{\"a\":1,\"aa\":2}", 'b', 0);
         due("a key in the place of a longer one", bench.write(0, 'l'), ".\"a\"=1\n.\"aa\"=2\n");
@@ -261,13 +266,15 @@ final class ReadingEdges {
         for (char value = 0; value < 256; value++) {
             int answer = bench.select(0, beginning + value);
             boolean goesOn = answer >= 0 || -1 - answer == beginning.length() + 1;
-            due("path " + beginning + " and the byte " + (int) value, goesOn, allowed.indexOf(value) >= 0);
-            due("path " + beginning + " and the byte " + (int) value, goesOn || -1 - answer == beginning.length(), true);
+            String what = "path " + beginning + " and the byte " + (int) value;
+            due(what, goesOn, allowed.indexOf(value) >= 0);
+            due(what, goesOn || -1 - answer == beginning.length(), true);
         }
     }
 
     private static void pathSteps() {
-        says("Paths. A path is a text of steps, each one of: . and a key as a text: the value for this key of each map;");
+        says("Paths. A path is a text of steps, each one of: . and a key as a text: the value for this key of each "
+            + "map;");
         pathNext("", "*?.[");
         pathNext("*", "*?.[");
         pathNext("?*", "*?.[");
@@ -335,8 +342,8 @@ final class ReadingEdges {
         says("and ? : the value itself, and all values in it, each one ahead of what is in it.");
         due("?", kinds(bench, "?"), "mr1m2r3m45");
         due("of what holds nothing", kinds(bench, ".\"c\"?"), "5");
-        says("It selects from a value, step by step: what a step selects from the first value, then from the second one, and "
-            + "so on, each time in the order in which it stands;");
+        says("It selects from a value, step by step: what a step selects from the first value, then from the second "
+            + "one, and so on, each time in the order in which it stands;");
         due("?*", kinds(bench, "?*"), "rm51mr234");
         due("*?", kinds(bench, "*?"), "r1m2r3m45");
         due("?.b", kinds(bench, "?.\"b\""), "m24");

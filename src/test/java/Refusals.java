@@ -24,7 +24,8 @@ final class Refusals {
     private static final String[] DOCUMENTS = {"{\"a\":[1,{\"k\":2}],\"b\":-0.50}", "[" + TEN_TEXTS + "123456789]",
         "[[[[[[[[]]]]]]]]", "[" + "0,".repeat(198) + "0]", "[999999999,1.50,-999999999,\"x\"]", maps(), "{\"a\":["
             + "0,".repeat(99) + "0]}"};
-    private static final String[] SIDES = {"{}", "{\"a\":[" + "0,".repeat(98) + "0]}", "{\"b\":[" + "0,".repeat(98) + "0]}", "5"};
+    private static final String NINETY_NINE = "0,".repeat(98) + "0";
+    private static final String[] SIDES = {"{}", "{\"a\":[" + NINETY_NINE + "]}", "{\"b\":[" + NINETY_NINE + "]}", "5"};
 
     private Refusals() {
     }
@@ -79,15 +80,16 @@ final class Refusals {
         return bench.mill;
     }
 
-    private static void refused(Class<? extends RuntimeException> due, String[] documents, boolean underWay, String path,
-            Call call) {
+    private static void refused(Class<? extends RuntimeException> due, String[] documents, boolean underWay,
+            String path, Call call) {
         RosettaMill mill = mill(documents, underWay, path);
         Bench.fails(Doc.told() + (underWay ? "with a text under way" : ""), due, () -> call.answer(mill));
         String looks = Look.apart(Look.at(mill), Look.at(mill(documents, underWay, path)));
         Bench.due(Doc.told() + "it changes nothing, the mill looks", looks, "the same");
     }
 
-    private static void refused(Class<? extends RuntimeException> due, String[] documents, boolean underWay, Call call) {
+    private static void refused(Class<? extends RuntimeException> due, String[] documents, boolean underWay,
+            Call call) {
         refused(due, documents, underWay, "?", call);
     }
 
@@ -136,10 +138,12 @@ final class Refusals {
     }
 
     private static void settings() {
-        says(6, "Throws `IllegalArgumentException` if there is no such dialect or setting, or the value is out of range");
-        refused(Ranges.ARGUMENT, x -> x.set('x', 's', 0), x -> x.set('l', 'c', 0), x -> x.set('l', 't', 0), x -> x.set('p', 'e', 0),
-            x -> x.set('l', 'e', 0), x -> x.set('b', 'x', 0), x -> x.set('b', 'c', 2), x -> x.set('b', 'e', -1),
-            x -> x.set('p', 's', 2), x -> x.set('l', 's', 2), x -> x.set('b', 't', 3), x -> x.set('p', 't', -1));
+        says(6, "Throws `IllegalArgumentException` if there is no such dialect or setting, or the value is out of "
+            + "range");
+        refused(Ranges.ARGUMENT, x -> x.set('x', 's', 0), x -> x.set('l', 'c', 0), x -> x.set('l', 't', 0),
+            x -> x.set('p', 'e', 0), x -> x.set('l', 'e', 0), x -> x.set('b', 'x', 0), x -> x.set('b', 'c', 2),
+            x -> x.set('b', 'e', -1), x -> x.set('p', 's', 2), x -> x.set('l', 's', 2), x -> x.set('b', 't', 3),
+            x -> x.set('p', 't', -1));
         says(6, "Throws `IllegalStateException` if a text is read in pieces");
         for (String one : "bc be bs bt pc ps pt ls".split(" ")) {
             for (int value = 0; value <= 1; value++) {
@@ -151,7 +155,8 @@ final class Refusals {
 
     private static void reading() {
         says(7, "Throws `IndexOutOfBoundsException` if there is no such tape or document");
-        refused(Ranges.INDEX, x -> x.read(-1, 'b', 0), x -> x.read(4, 'b', 0), x -> x.read(LAST, 'b', -1), x -> x.read(LAST, 'b', 8));
+        refused(Ranges.INDEX, x -> x.read(-1, 'b', 0), x -> x.read(4, 'b', 0), x -> x.read(LAST, 'b', -1),
+            x -> x.read(LAST, 'b', 8));
         says(7, "Throws `IllegalArgumentException` if there is no such dialect");
         refused(Ranges.ARGUMENT, x -> x.read(LAST, 'x', 0), x -> x.read(LAST, 's', 7));
         says(8, "Throws `IllegalArgumentException` if there is no such dialect");
@@ -180,7 +185,21 @@ final class Refusals {
 
     private static void selecting() {
         noTape(12, x -> x.select(SMALL, -1), x -> x.select(SMALL, 4));
-        noDocument(12, "", x -> x.select(MISSING, PATH), x -> x.select(-1, PATH), x -> x.select(8, PATH), x -> x.select(8, KEY));
+        noDocument(12, "", x -> x.select(MISSING, PATH), x -> x.select(-1, PATH), x -> x.select(8, PATH),
+            x -> x.select(8, KEY));
+    }
+
+    private static Object selected(RosettaMill mill, int promise, int index) {
+        switch (promise) {
+            case 13:
+                return mill.kindOf(index);
+            case 14:
+                return mill.sizeOf(index);
+            case 15:
+                return mill.numberOf(index);
+            default:
+                return mill.floatOf(index);
+        }
     }
 
     // Six values of the small document are selected: a map, a row, a number, a map, and two numbers.
@@ -189,8 +208,7 @@ final class Refusals {
             says(promise, "Throws `IndexOutOfBoundsException` if there is no such value");
             for (int index : new int[] {-1, 6, 200, Integer.MAX_VALUE, Integer.MIN_VALUE}) {
                 int asked = promise;
-                refused(Ranges.INDEX, DOCUMENTS, false, x -> asked == 13 ? x.kindOf(index) : asked == 14 ? x.sizeOf(index)
-                    : asked == 15 ? x.numberOf(index) : x.floatOf(index));
+                refused(Ranges.INDEX, DOCUMENTS, false, x -> selected(x, asked, index));
             }
         }
         says(15, "Throws `NoSuchElementException` if it is no number");
@@ -212,13 +230,14 @@ final class Refusals {
 
     private static void removing() {
         noTape(18, x -> x.remove(SMALL, -1), x -> x.remove(SMALL, 4));
-        noDocument(18, "", x -> x.remove(MISSING, PATH), x -> x.remove(-1, PATH), x -> x.remove(8, PATH), x -> x.remove(8, KEY));
+        noDocument(18, "", x -> x.remove(MISSING, PATH), x -> x.remove(-1, PATH), x -> x.remove(8, PATH),
+            x -> x.remove(8, KEY));
     }
 
     private static void putting() {
         says(19, "Throws `IndexOutOfBoundsException` if there is no such tape, for either");
-        refused(Ranges.INDEX, x -> x.put(SMALL, -1, KEY, SMALL), x -> x.put(SMALL, 4, KEY, SMALL), x -> x.put(SMALL, PATH, -1, SMALL),
-            x -> x.put(SMALL, PATH, 4, SMALL));
+        refused(Ranges.INDEX, x -> x.put(SMALL, -1, KEY, SMALL), x -> x.put(SMALL, 4, KEY, SMALL),
+            x -> x.put(SMALL, PATH, -1, SMALL), x -> x.put(SMALL, PATH, 4, SMALL));
         noDocument(19, ", for either", x -> x.put(MISSING, PATH, KEY, SMALL), x -> x.put(SMALL, PATH, KEY, MISSING),
             x -> x.put(-1, PATH, KEY, SMALL), x -> x.put(SMALL, PATH, KEY, 8), x -> x.put(8, KEY, KEY, SMALL));
         says(19, "Throws `IllegalArgumentException` if the tape is no key");
@@ -232,33 +251,38 @@ final class Refusals {
 
     private static void changing() {
         noTape(20, x -> x.change(SMALL, -1, '+', 1), x -> x.change(SMALL, 4, '+', 1));
-        noDocument(20, "", x -> x.change(MISSING, PATH, '+', 1), x -> x.change(-1, PATH, '-', 1), x -> x.change(8, KEY, 'c', 1));
+        noDocument(20, "", x -> x.change(MISSING, PATH, '+', 1), x -> x.change(-1, PATH, '-', 1),
+            x -> x.change(8, KEY, 'c', 1));
         says(20, "Throws `IllegalArgumentException` if there is no such operation, or the number is out of range");
         refused(Ranges.ARGUMENT, x -> x.change(SMALL, PATH, 'x', 1), x -> x.change(SMALL, PATH, '+', 1000),
-            x -> x.change(SMALL, PATH, '+', -1000), x -> x.change(SMALL, PATH, '*', 1000), x -> x.change(SMALL, PATH, '*', -1000),
-            x -> x.change(SMALL, PATH, 'c', 5), x -> x.change(SMALL, PATH, 'c', -1), x -> x.change(SMALL, KEY, 'x', 1));
+            x -> x.change(SMALL, PATH, '+', -1000), x -> x.change(SMALL, PATH, '*', 1000),
+            x -> x.change(SMALL, PATH, '*', -1000), x -> x.change(SMALL, PATH, 'c', 5),
+            x -> x.change(SMALL, PATH, 'c', -1), x -> x.change(SMALL, KEY, 'x', 1));
         says(20, "Throws `ArithmeticException` if one would have more than 9 digits");
         refused(Ranges.ARITHMETIC, x -> x.change(NINES, PATH, '+', 1), x -> x.change(NINES, PATH, '+', -1),
-            x -> x.change(NINES, PATH, '*', 2), x -> x.change(NINES, PATH, '*', -999), x -> x.change(NINES, PATH, '*', 999));
+            x -> x.change(NINES, PATH, '*', 2), x -> x.change(NINES, PATH, '*', -999),
+            x -> x.change(NINES, PATH, '*', 999));
     }
 
     private static void turning() {
         noPlace(21, x -> x.columns(MAPS, -1), x -> x.columns(MAPS, 8));
-        noDocument(21, "", x -> x.columns(MISSING, 0), x -> x.columns(-1, 0), x -> x.columns(8, 0), x -> x.columns(7, 7));
+        noDocument(21, "", x -> x.columns(MISSING, 0), x -> x.columns(-1, 0), x -> x.columns(8, 0),
+            x -> x.columns(7, 7));
         says(21, "Throws `UnsupportedOperationException` if it is no row of maps, or would have too many values");
         refused(Ranges.UNSUPPORTED, x -> x.columns(SMALL, 0), x -> x.columns(FULL, 7), x -> x.columns(NINES, NINES),
             x -> x.columns(MAPS, MAPS), x -> x.columns(MAPS, SMALL), x -> x.columns(MAPS, MISSING));
         noPlace(22, x -> x.rows(ROWS, -1), x -> x.rows(ROWS, 8));
         noDocument(22, "", x -> x.rows(MISSING, 0), x -> x.rows(-1, 0), x -> x.rows(8, 0), x -> x.rows(7, 7));
         says(22, "Throws `UnsupportedOperationException` if it is no such map, or would have too many values");
-        refused(Ranges.UNSUPPORTED, x -> x.rows(SMALL, 0), x -> x.rows(FULL, 7), x -> x.rows(MAPS, NINES), x -> x.rows(ROWS, ROWS),
-            x -> x.rows(ROWS, SMALL), x -> x.rows(ROWS, MISSING));
+        refused(Ranges.UNSUPPORTED, x -> x.rows(SMALL, 0), x -> x.rows(FULL, 7), x -> x.rows(MAPS, NINES),
+            x -> x.rows(ROWS, ROWS), x -> x.rows(ROWS, SMALL), x -> x.rows(ROWS, MISSING));
     }
 
     private static void merging() {
         noPlace(24, x -> x.merge(0, 1, 2, -1), x -> x.merge(0, 1, 2, 8));
-        noDocument(24, ", for any", x -> x.merge(MISSING, 1, 2, 3), x -> x.merge(0, MISSING, 2, 3), x -> x.merge(0, 1, MISSING, 3),
-            x -> x.merge(-1, 1, 2, 3), x -> x.merge(0, 8, 2, 3), x -> x.merge(0, 1, 8, 3), x -> x.merge(7, 7, 7, 7));
+        noDocument(24, ", for any", x -> x.merge(MISSING, 1, 2, 3), x -> x.merge(0, MISSING, 2, 3),
+            x -> x.merge(0, 1, MISSING, 3), x -> x.merge(-1, 1, 2, 3), x -> x.merge(0, 8, 2, 3),
+            x -> x.merge(0, 1, 8, 3), x -> x.merge(7, 7, 7, 7));
         says(24, "Throws `UnsupportedOperationException` if it would have too many values");
         for (int to = 0; to < 8; to++) {
             int place = to;
@@ -267,8 +291,8 @@ final class Refusals {
     }
 
     private static void asking() {
-        noDocument(23, ", for either", x -> x.differences(MISSING, 0), x -> x.differences(0, MISSING), x -> x.differences(7, 7),
-            x -> x.differences(-1, 0), x -> x.differences(0, 8));
+        noDocument(23, ", for either", x -> x.differences(MISSING, 0), x -> x.differences(0, MISSING),
+            x -> x.differences(7, 7), x -> x.differences(-1, 0), x -> x.differences(0, 8));
         noDocument(25, ", for either", x -> x.areSame(MISSING, 0), x -> x.areSame(0, MISSING), x -> x.areSame(7, 7),
             x -> x.areSame(-1, 0), x -> x.areSame(0, 8));
         noDocument(26, "", x -> x.values(MISSING), x -> x.values(-1), x -> x.values(8));
@@ -288,26 +312,28 @@ final class Refusals {
 
     private static void listedFirst() {
         says(0, "If several exceptions apply, the exception that is listed first is thrown.");
-        refused(Ranges.INDEX, x -> x.type(4, 0, 0), x -> x.type(-1, 0, 5), x -> x.read(4, 'x', 0), x -> x.read(0, 'x', 8),
-            x -> x.read(4, 'x', 8), x -> x.write(SMALL, 'x', 4), x -> x.write(MISSING, 'b', 4), x -> x.write(MISSING, 'x', -1),
-            x -> x.write(LONG, 'b', 4), x -> x.select(MISSING, 4), x -> x.select(8, -1), x -> x.numberOf(6), x -> x.floatOf(-1),
-            x -> x.replace(MISSING, 4, SMALL), x -> x.replace(SMALL, -1, MISSING), x -> x.replace(FULL, 4, FULL),
-            x -> x.remove(MISSING, 4), x -> x.put(MISSING, 4, KEY, SMALL), x -> x.put(SMALL, PATH, 4, MISSING),
+        refused(Ranges.INDEX, x -> x.type(4, 0, 0), x -> x.type(-1, 0, 5), x -> x.read(4, 'x', 0),
+            x -> x.read(0, 'x', 8), x -> x.read(4, 'x', 8), x -> x.write(SMALL, 'x', 4), x -> x.write(MISSING, 'b', 4),
+            x -> x.write(MISSING, 'x', -1), x -> x.write(LONG, 'b', 4), x -> x.select(MISSING, 4), x -> x.select(8, -1),
+            x -> x.numberOf(6), x -> x.floatOf(-1), x -> x.replace(MISSING, 4, SMALL),
+            x -> x.replace(SMALL, -1, MISSING), x -> x.replace(FULL, 4, FULL), x -> x.remove(MISSING, 4),
+            x -> x.put(MISSING, 4, KEY, SMALL), x -> x.put(SMALL, PATH, 4, MISSING),
             x -> x.put(SMALL, 4, NO_KEY, SMALL), x -> x.put(FULL, 4, KEY, FULL), x -> x.put(FULL, PATH, 4, FULL),
             x -> x.change(MISSING, 4, '+', 1), x -> x.change(SMALL, 4, 'x', 1), x -> x.change(NINES, 4, '+', 1),
             x -> x.columns(MISSING, 8), x -> x.columns(SMALL, 8), x -> x.columns(MAPS, -1), x -> x.rows(MISSING, 8),
-            x -> x.rows(SMALL, 8), x -> x.rows(ROWS, -1), x -> x.merge(MISSING, 0, 0, 8), x -> x.merge(0, MISSING, 0, -1),
-            x -> x.merge(0, 0, MISSING, 8));
+            x -> x.rows(SMALL, 8), x -> x.rows(ROWS, -1), x -> x.merge(MISSING, 0, 0, 8),
+            x -> x.merge(0, MISSING, 0, -1), x -> x.merge(0, 0, MISSING, 8));
         refused(Ranges.INDEX, SIDES, false, x -> x.merge(0, 1, 2, 8));
         refused(Ranges.INDEX, DOCUMENTS, false, x -> x.piece(4));
         refused(Ranges.INDEX, DOCUMENTS, false, x -> x.finish(8));
         refused(Ranges.NONE, x -> x.write(MISSING, 'x', 0), x -> x.put(MISSING, PATH, NO_KEY, SMALL),
-            x -> x.put(SMALL, PATH, NO_KEY, MISSING), x -> x.put(FULL, PATH, KEY, MISSING), x -> x.change(MISSING, PATH, 'x', 1),
-            x -> x.change(MISSING, PATH, '+', 1000), x -> x.replace(FULL, PATH, MISSING));
+            x -> x.put(SMALL, PATH, NO_KEY, MISSING), x -> x.put(FULL, PATH, KEY, MISSING),
+            x -> x.change(MISSING, PATH, 'x', 1), x -> x.change(MISSING, PATH, '+', 1000),
+            x -> x.replace(FULL, PATH, MISSING));
         refused(Ranges.ARGUMENT, x -> x.type(LAST, 0, 5), x -> x.type(LAST, 0, 0), x -> x.write(LONG, 'x', 0),
             x -> x.write(FULL, 'x', 0), x -> x.put(FULL, PATH, NO_KEY, SMALL), x -> x.put(DEEP, PATH, NO_KEY, DEEP),
-            x -> x.change(NINES, PATH, 'x', 1), x -> x.change(NINES, PATH, '*', 1000), x -> x.change(NINES, PATH, '+', 1000),
-            x -> x.change(NINES, PATH, 'c', 5));
+            x -> x.change(NINES, PATH, 'x', 1), x -> x.change(NINES, PATH, '*', 1000),
+            x -> x.change(NINES, PATH, '+', 1000), x -> x.change(NINES, PATH, 'c', 5));
         refused(Ranges.ARGUMENT, DOCUMENTS, true, x -> x.set('x', 'c', 0));
         refused(Ranges.ARGUMENT, DOCUMENTS, true, x -> x.set('b', 'x', 0));
         refused(Ranges.ARGUMENT, DOCUMENTS, true, x -> x.set('b', 'c', 2));

@@ -48,7 +48,8 @@ public final class SoundTest {
     }
 
     // A row of bytes has 20 places for each text or key.
-    private static void spoilBytes(int document, String name, int place, int value) throws ReflectiveOperationException {
+    private static void spoilBytes(int document, String name, int place, int value)
+            throws ReflectiveOperationException {
         Bench bench = bench();
         Object row = part(part(Array.get(part(bench.mill, "documents"), document), name), "bytes");
         spoilRow(bench, name, row, 20 * place, value);

@@ -69,8 +69,8 @@ final class TableEdges {
     }
 
     private static void columns() {
-        says(21, "Turns a row of maps into a map of rows: for each key, in the order in which it comes first, a row of the values "
-            + "of all maps, nothing for those that do not have it.");
+        says(21, "Turns a row of maps into a map of rows: for each key, in the order in which it comes first, a row of "
+            + "the values of all maps, nothing for those that do not have it.");
         says(21, "Returns the number of keys.");
         turns("[{\"a\":1}]", 1, "{\"a\":[1]}", true);
         turns("[{\"b\":1,\"a\":2},{\"c\":3,\"a\":4}]", 3, "{\"b\":[1,null],\"a\":[2,4],\"c\":[null,3]}", true);
@@ -93,21 +93,13 @@ final class TableEdges {
     private static void columnLimits() {
         for (int more = 0; more <= 5; more++) {
             // Seven keys of 27 maps are 1 + 7 * 28 values, and what is in one of them comes with it.
-            String first = "{\"a\":[" + "0,".repeat(more).replaceAll(",$", "") + "],\"b\":0,\"c\":0,\"d\":0,\"e\":0,\"f\":0,\"g\":0}";
+            String first = "{\"a\":[" + "0,".repeat(more).replaceAll(",$", "")
+                + "],\"b\":0,\"c\":0,\"d\":0,\"e\":0,\"f\":0,\"g\":0}";
             Bench bench = with("[" + first + ",{}".repeat(26) + "]", "9");
             kept(bench, () -> bench.mill.columns(0, 1), 7, 197 + more);
         }
-        for (int maps = 196; maps <= 198; maps++) {
-            Bench bench = with("[{\"a\":0}" + ",{}".repeat(maps - 196) + "]", "9");
-            due("some maps", bench.mill.columns(0, 1), 1);
-        }
-        Bench many = with("[]", "{}", "{\"a\":0}");
-        many.put(0, "", "", 2);
-        for (int i = 0; i < 150; i++) {
-            many.put(0, "", "", 1);
-        }
-        due("152 values", many.mill.columns(0, 3) + " " + many.mill.values(3), "1 153");
-        for (int i = 0; i < 47; i++) {
+        Bench many = with("[{\"a\":0}]", "{}");
+        for (int i = 0; i < 197; i++) {
             many.put(0, "", "", 1);
         }
         due("200 values", many.mill.values(0), 200);
@@ -128,8 +120,8 @@ final class TableEdges {
     }
 
     private static void rows() {
-        says(22, "Turns a map of rows, all of the same length, into a row of maps: each has the keys, in their order, for which "
-            + "the value there is not nothing.");
+        says(22, "Turns a map of rows, all of the same length, into a row of maps: each has the keys, in their order, "
+            + "for which the value there is not nothing.");
         says(22, "Returns the number of maps, 0 without keys.");
         turns("{\"a\":[1]}", 1, "[{\"a\":1}]", false);
         turns("{\"b\":[1,null],\"a\":[2,4],\"c\":[null,3]}", 2, "[{\"b\":1,\"a\":2},{\"a\":4,\"c\":3}]", false);
@@ -139,9 +131,9 @@ final class TableEdges {
         turns("{}", 0, "[]", false);
         turns("{\"a\":[]}", 0, "[]", false);
         turns("{\"a\":[],\"b\":[]}", 0, "[]", false);
-        for (String wrong : new String[] {"null", "1", "\"\"", "[]", "[[]]", "{\"a\":1}", "{\"a\":{}}", "{\"a\":[],\"b\":{}}",
-            "{\"a\":[],\"b\":[1]}", "{\"a\":[1],\"b\":[]}", "{\"a\":[1],\"b\":[1,2]}", "{\"a\":[1,2],\"b\":[1],\"c\":[1,2]}",
-            "{\"a\":[1],\"b\":null}"}) {
+        for (String wrong : new String[] {"null", "1", "\"\"", "[]", "[[]]", "{\"a\":1}", "{\"a\":{}}",
+            "{\"a\":[],\"b\":{}}", "{\"a\":[],\"b\":[1]}", "{\"a\":[1],\"b\":[]}", "{\"a\":[1],\"b\":[1,2]}",
+            "{\"a\":[1,2],\"b\":[1],\"c\":[1,2]}", "{\"a\":[1],\"b\":null}"}) {
             turns(wrong, 0, null, false);
         }
         says(22, "- `document`: the document");
@@ -155,7 +147,7 @@ final class TableEdges {
             for (int nothing = 0; nothing <= 2; nothing++) {
                 String row = "null,".repeat(nothing) + "0,".repeat(maps - nothing);
                 Bench bench = with("{\"a\":[" + row.substring(0, row.length() - 1) + "]}", "9");
-                kept(bench, () -> bench.mill.rows(0, 1), nothing * 0 + bench.mill.values(0) - 2, 1 + 2 * maps - nothing);
+                kept(bench, () -> bench.mill.rows(0, 1), maps, 1 + 2 * maps - nothing);
             }
         }
         Bench bench = with("{\"a\":[0]}", "null");
@@ -219,8 +211,8 @@ final class TableEdges {
     }
 
     private static void merge() {
-        says(24, "Merges two changes of a document. If one side is the same as what it came from, the other one is taken, if both "
-            + "are the same, the first one;");
+        says(24, "Merges two changes of a document. If one side is the same as what it came from, the other one is "
+            + "taken, if both are the same, the first one;");
         merges("1", "1", "2", 0, "2");
         merges("1", "2", "1", 0, "2");
         merges("1", "1.0", "2", 0, "2");
@@ -244,8 +236,9 @@ final class TableEdges {
     }
 
     private static void mergeKeys() {
-        says(24, "if all three are maps, each key is merged so, in the order of the first one's keys, then those that just the "
-            + "second one has, one that is not there counting as unlike all that is there, and merged to that, is not there;");
+        says(24, "if all three are maps, each key is merged so, in the order of the first one's keys, then those that "
+            + "just the second one has, one that is not there counting as unlike all that is there, and merged to "
+            + "that, is not there;");
         merges("{}", "{\"a\":1}", "{\"b\":2}", 0, "{\"a\":1,\"b\":2}");
         merges("{}", "{\"b\":1,\"a\":2}", "{\"d\":3,\"c\":4}", 0, "{\"b\":1,\"a\":2,\"d\":3,\"c\":4}");
         merges("{\"a\":1,\"b\":2}", "{\"b\":2,\"a\":3}", "{\"c\":5,\"a\":1,\"b\":4}", 0, "{\"b\":4,\"a\":3,\"c\":5}");
@@ -258,8 +251,8 @@ final class TableEdges {
         merges("{\"a\":null}", "{\"b\":1}", "{\"c\":1,\"a\":null}", 0, "{\"b\":1,\"c\":1}");
         merges("{}", "{\"a\":null}", "{\"b\":null}", 0, "{\"a\":null,\"b\":null}");
         merges("{}", "{\"a\":1.0,\"x\":1}", "{\"y\":1,\"a\":1}", 0, "{\"a\":1.0,\"x\":1,\"y\":1}");
-        merges("{\"a\":{\"b\":{\"c\":1,\"d\":2}}}", "{\"a\":{\"b\":{\"d\":3,\"c\":1}}}", "{\"a\":{\"b\":{\"c\":4,\"d\":2}}}", 0,
-            "{\"a\":{\"b\":{\"d\":3,\"c\":4}}}");
+        merges("{\"a\":{\"b\":{\"c\":1,\"d\":2}}}", "{\"a\":{\"b\":{\"d\":3,\"c\":1}}}",
+            "{\"a\":{\"b\":{\"c\":4,\"d\":2}}}", 0, "{\"a\":{\"b\":{\"d\":3,\"c\":4}}}");
     }
 
     private static void mergeConflicts() {
@@ -283,7 +276,8 @@ final class TableEdges {
     private static void mergeLimits() {
         for (int first = 99; first <= 101; first++) {
             for (int second = 98; second <= 100; second++) {
-                Bench bench = with("{}", "9", "{\"a\":[" + "0,".repeat(first - 3) + "0]}", "{\"b\":[" + "0,".repeat(second - 2) + "0]}");
+                Bench bench = with("{}", "9", "{\"a\":[" + "0,".repeat(first - 3) + "0]}", "{\"b\":["
+                    + "0,".repeat(second - 2) + "0]}");
                 due("values", bench.mill.values(2) + " " + bench.mill.values(3), first + " " + (second + 1));
                 kept(bench, () -> bench.mill.merge(0, 2, 3, 1), 0, first + second);
             }
@@ -342,10 +336,11 @@ final class TableEdges {
     private static void lost() {
         says(28, "Returns how many numbers of a document are not just the same as some float.");
         says(28, "Returns the number of numbers.");
-        int[] numbers = {0, 1, 2, 3, 5, 7, 10, 15, 25, 50, 75, 125, 375, 625, 1000, 1875, 3125, 6250, 9375, 10000, 15625, 16777215,
-            16777216, 16777217, 16777218, 33554431, 33554432, 33554433, 33554434, 33554435, 33554436, 67108860, 67108862, 67108864,
-            83886075, 83886080, 83886085, 167772150, 167772160, 167772165, 167772170, 104857600, 104857625, 268435440, 268435455,
-            536870880, 536870896, 999999936, 999999999, 999999872, 524288000, 655359375, 655360625};
+        int[] numbers = {0, 1, 2, 3, 5, 7, 10, 15, 25, 50, 75, 125, 375, 625, 1000, 1875, 3125, 6250, 9375, 10000,
+            15625, 16777215, 16777216, 16777217, 16777218, 33554431, 33554432, 33554433, 33554434, 33554435, 33554436,
+            67108860, 67108862, 67108864, 83886075, 83886080, 83886085, 167772150, 167772160, 167772165, 167772170,
+            104857600, 104857625, 268435440, 268435455, 536870880, 536870896, 999999936, 999999999, 999999872,
+            524288000, 655359375, 655360625};
         for (int number : numbers) {
             for (int behind = 0; behind <= 4; behind++) {
                 String text = BigDecimal.valueOf(number, behind).toPlainString();
@@ -378,18 +373,20 @@ final class TableEdges {
 
     private static void sum() {
         says(29, "Returns a sum that is the same for documents that are the same.");
-        Bench bench = with("{\"b\":-0.0,\"a\":[1.50,{\"d\":2.0,\"c\":3}]}", "{\"a\":[1.5,{\"c\":3.000,\"d\":2}],\"b\":0}");
+        Bench bench = with("{\"b\":-0.0,\"a\":[1.50,{\"d\":2.0,\"c\":3}]}",
+            "{\"a\":[1.5,{\"c\":3.000,\"d\":2}],\"b\":0}");
         due("same", bench.mill.sum(0), bench.mill.sum(1));
         bench.mill.set('b', 's', 1);
         due("as it was", bench.mill.sum(0), bench.mill.sum(1));
         says(29, "- `document`: the document");
         Ranges.of(MAPS, 0, 7, Ranges.NONE, (mill, document) -> (int) mill.sum(document));
-        says(29, "Returns 7 at first, then 31 times itself plus each byte of the document in 'b', by rising keys, numbers without "
-            + "zeros at the end behind the point, or the point then, and without a - at 0, as longs go round.");
-        String[] numbers = {"0", "-0", "0.0000", "-0.00", "1.0", "10", "100.00", "-1.50", "0.0500", "0.5", "-0.0001", "120.0300",
-            "999999999", "99999.0000"};
-        String[] written = {"0", "0", "0", "0", "1", "10", "100", "-1.5", "0.05", "0.5", "-0.0001", "120.03", "999999999",
-            "99999"};
+        says(29, "Returns 7 at first, then 31 times itself plus each byte of the document in 'b', by rising keys, "
+            + "numbers without zeros at the end behind the point, or the point then, and without a - at 0, as longs go "
+            + "round.");
+        String[] numbers = {"0", "-0", "0.0000", "-0.00", "1.0", "10", "100.00", "-1.50", "0.0500", "0.5", "-0.0001",
+            "120.0300", "999999999", "99999.0000"};
+        String[] written = {"0", "0", "0", "0", "1", "10", "100", "-1.5", "0.05", "0.5", "-0.0001", "120.03",
+            "999999999", "99999"};
         for (int i = 0; i < numbers.length; i++) {
             sums(numbers[i], written[i]);
         }
@@ -410,13 +407,15 @@ final class TableEdges {
         for (int i = 1; i < 199; i++) {
             full.put(0, "", "", 1);
         }
-        due("4578 bytes", full.mill.sum(0), sumOf("[" + "\"~~~~~~~~~~~~~~~~~~~~\",".repeat(198) + "\"~~~~~~~~~~~~~~~~~~~~\"]"));
+        due("4578 bytes", full.mill.sum(0), sumOf("[" + "\"~~~~~~~~~~~~~~~~~~~~\",".repeat(198)
+            + "\"~~~~~~~~~~~~~~~~~~~~\"]"));
     }
 
     private static void heldShare() {
         says(30, "Returns the share of the values of all documents that are rows or maps.");
         says(30, "Returns their number divided by that of all values, both converted to float.");
-        String[] texts = {"1", "[]", "{}", "[1]", "{\"a\":1,\"b\":[]}", "[" + "0,".repeat(198) + "0]", "\"[]\"", "null"};
+        String[] texts = {"1", "[]", "{}", "[1]", "{\"a\":1,\"b\":[]}", "[" + "0,".repeat(198) + "0]", "\"[]\"",
+            "null"};
         int[] held = {0, 1, 1, 1, 2, 1, 0, 0};
         int[] values = {1, 1, 1, 2, 3, 200, 1, 1};
         Bench bench = new Bench();
@@ -447,13 +446,13 @@ final class TableEdges {
     }
 
     private static void isSound() {
-        says(32, "Checks whether each document, written in each dialect and read again, is the same with the same notations, and "
-            + "is the same if read in two halves.");
+        says(32, "Checks whether each document, written in each dialect and read again, is the same with the same "
+            + "notations, and is the same if read in two halves.");
         says(32, "Returns whether this holds.");
         due("without documents", new RosettaMill().isSound(), true);
         String longest = "\"" + "\\\"".repeat(20) + "\"";
-        String[] texts = {"null", "[]", "{}", "[0,-0,0.0,-0.0000,-1.50,999999999,0.0001]", "[" + "0,".repeat(198) + "0]",
-            "[[[[[[[[]]]]]]]]", "{\"#\":\"# \\n\",\"\":{\"\":[{}]},\"a\":true,\"A\":false}", longest};
+        String[] texts = {"null", "[]", "{}", "[0,-0,0.0,-0.0000,-1.50,999999999,0.0001]", "[" + "0,".repeat(198)
+            + "0]", "[[[[[[[[]]]]]]]]", "{\"#\":\"# \\n\",\"\":{\"\":[{}]},\"a\":true,\"A\":false}", longest};
         Bench bench = with(texts);
         for (String setting : "bc1 be1 bs1 bt1 pc1 ps1 pt1 ls1 bt2 pt2 bs0 ps0".split(" ")) {
             bench.mill.set(setting.charAt(0), setting.charAt(1), setting.charAt(2) - '0');

@@ -62,7 +62,6 @@ final class TapeEdges {
         says(2, "Types bytes at the end of a tape, which has at most 240.");
         for (int many = 1; many <= 4; many++) {
             RosettaMill mill = new RosettaMill();
-            int typed = many;
             for (int length = many; length <= 240; length += many) {
                 due("length", mill.type(3, length, many), length);
             }
@@ -72,7 +71,7 @@ final class TapeEdges {
             }
             due("it stays full", mill.length(3), 240);
             due("the last one", mill.byteAt(3, 239), 240);
-            due("the first one", mill.byteAt(3, typed - 1), typed);
+            due("the first one", mill.byteAt(3, many - 1), many);
             due("another tape", mill.type(2, 0, many), many);
         }
         for (int length = 236; length <= 240; length++) {
@@ -100,7 +99,8 @@ final class TapeEdges {
                 RosettaMill mill = new RosettaMill();
                 mill.type(0, typed, many);
                 for (int i = 0; i < many; i++) {
-                    due(typed + " " + many + " " + i, mill.byteAt(0, i), (int) ((typed & 0xffffffffL) >> 8 * (many - 1 - i)) & 255);
+                    due(typed + " " + many + " " + i, mill.byteAt(0, i),
+                        (int) ((typed & 0xffffffffL) >> 8 * (many - 1 - i)) & 255);
                 }
             }
         }
@@ -170,8 +170,8 @@ final class TapeEdges {
         Ranges.ofSigns(TEXT, "bpl", Ranges.ARGUMENT, (mill, sign) -> mill.set((char) sign, 's', 1));
         Ranges.ofSigns(TEXT, "bp", Ranges.ARGUMENT, (mill, sign) -> mill.set((char) sign, 'c', 1));
         Ranges.ofSigns(TEXT, "bp", Ranges.ARGUMENT, (mill, sign) -> mill.set((char) sign, 't', 1));
-        says(6, "- `what`: 'c' comments are on, 'e' a , can stand behind the last one, for 'b' alone, 's' maps are written by "
-            + "rising keys, 't' twins");
+        says(6, "- `what`: 'c' comments are on, 'e' a , can stand behind the last one, for 'b' alone, 's' maps are "
+            + "written by rising keys, 't' twins");
         Ranges.ofSigns(TEXT, "b", Ranges.ARGUMENT, (mill, sign) -> mill.set((char) sign, 'e', 1));
         Ranges.ofSigns(TEXT, "cest", Ranges.ARGUMENT, (mill, sign) -> mill.set('b', (char) sign, 1));
         Ranges.ofSigns(TEXT, "cst", Ranges.ARGUMENT, (mill, sign) -> mill.set('p', (char) sign, 1));
